@@ -15,6 +15,7 @@ public final class TwinFinderPromises {
         addNumbersTexts();
         addMakesPlain();
         addWords();
+        addManyWords();
         addStopsAt48();
         addStopsAt6000Shingles();
         addStopsAt50000Bytes();
@@ -37,6 +38,7 @@ public final class TwinFinderPromises {
         bothByBands();
         pairs();
         pair();
+        allPairs();
         nearest();
         count();
         System.out.println(checks + " checks, " + wrong + " wrong");
@@ -181,6 +183,34 @@ public final class TwinFinderPromises {
         row("400 words", x, 1, 1);
     }
 
+    private static void addManyWords() {
+        TwinFinder x = new TwinFinder();
+        x.mode(1, 1);
+        int word = 0;
+        int bytes = 0;
+        for (int d = 0; d < 6; d++) {
+            StringBuilder text = new StringBuilder();
+            int first = word;
+            for (; text.length() < 780; word++) {
+                String next = mixedWord(word);
+                bytes += next.length();
+                text.append(next).append(' ');
+            }
+            due("many words " + d, addText(x, text.toString()), d);
+            due("all are unlike", x.count(4), word);
+            due("bytes of all", x.count(5), bytes);
+            due("how many", documentOf(x, d, 0), word - first);
+        }
+        for (int n = 0; n < word; n += 41) {
+            spells("word " + n, x, n, mixedWord(n));
+        }
+    }
+
+    /** Words of several lengths, no two alike: 40 m is no multiple of 3 where m is none. */
+    private static String mixedWord(int n) {
+        return n < 36 ? Integer.toString(n, 36) : Long.toString(n * 7919L * (n % 3 == 0 ? 1 : 40), 36);
+    }
+
     private static void addStopsAt48() {
         TwinFinder x = new TwinFinder();
         for (int i = 0; i < 48; i++) {
@@ -206,14 +236,17 @@ public final class TwinFinderPromises {
             due("800 bytes", addText(x, text.next(800)), i);
         }
         due("7 texts", x.count(4), 7 * 797);
-        due("over 6000", addText(x, text.next(425)), NONE);
+        String tooLong = text.next(425);
+        due("over 6000", addText(x, tooLong), NONE);
         due("over 6000: no numbers", x.count(4), 7 * 797);
         due("over 6000: no bytes", x.count(5), 7 * 797 * 4);
         due("over 6000: tape is empty", x.count(0), 0);
         due("over 6000: none came", x.count(3), 7);
         due("over 6000: not known", x.letter(7 * 797, 0), NONE);
-        String last = text.next(424);
+        String last = tooLong.substring(1);
         due("up to 6000", addText(x, last), 7);
+        due("numbers that were taken back are given anew", shingleOf(x, 7, 0), 7 * 797);
+        due("along the text", x.letter(7 * 797, 0), last.charAt(0));
         due("6000", x.count(4), 6000);
         due("the last one", x.letter(5999, 3), last.charAt(423));
         due("one more", addText(x, text.next(4)), NONE);
@@ -288,6 +321,7 @@ public final class TwinFinderPromises {
         x.bands(2, 3);
         x.threshold(3, 4);
         type(x, "Tape .");
+        due("a family", x.pairs(3), 1);
         due("the same mode is another one", x.mode(1, 3), 1);
         counts("mode", x, 6, 4, 0, 0, 0, 0, 1, 2, 3, 3, 4, 1, 3);
         due("no document", documentOf(x, 1, 0), THROWS);
@@ -299,7 +333,20 @@ public final class TwinFinderPromises {
         due("tape comes by the new mode", x.add(), 0);
         row("numbers begin anew", x, 0, 0, 1, 2, 3);
         spells("first", x, 0, "t");
-        due("highest", x.mode(1, 9), 1);
+        addText(x, "eat");
+        addText(x, "ate");
+        due("the same mode again", x.mode(0, 1), 3);
+        addText(x, "tape");
+        addText(x, "tea");
+        addText(x, "peas");
+        addText(x, "x");
+        row("the same text again", x, 0, 0, 1, 2, 3);
+        row("a text of old shingles", x, 1, 0, 1, 3);
+        due("numbers", x.count(4), 6);
+        due("with itself", bothOf(x, 3, 3, 0), 1);
+        due("with one before", bothOf(x, 2, 0, 0), 3);
+        due("with another", bothOf(x, 3, 2, 0), 0);
+        due("highest", x.mode(1, 9), 4);
         due("highest bytes", x.mode(0, 9), 0);
         due("lowest words", x.mode(1, 1), 0);
     }
@@ -344,6 +391,12 @@ public final class TwinFinderPromises {
         due("its own exchanges are gone", x.image(2, 4), 5);
         due("its own exchanges are gone", x.count(6), 1);
         due("not those of others", x.image(3, 4), 5);
+        due("tell once more", x.tell(2, 1, 1), true);
+        due("none are gone twice", x.count(6), 1);
+        x.exchange(2, 4, 9);
+        due("gone ones do not come back: 4", x.image(2, 4), 10);
+        due("gone ones do not come back: 5", x.image(2, 5), 6);
+        due("gone ones do not come back: 9", x.image(2, 9), 5);
         addText(x, "abcdefgh");
         x.tell(7, 65520, 0);
         due("signatures follow", signatureOf(x, 0, 7), 0);
@@ -405,9 +458,13 @@ public final class TwinFinderPromises {
         x.tell(1, 1, 0);
         due("a hundred are gone", x.count(6), 200);
         due("of this", x.image(1, 298), 298);
-        due("not of others", x.image(0, 297), 65520 - 297);
-        due("not of others", x.image(2, 2), 65518);
+        for (int i = 0; i < 300; i += 2) {
+            due("those of others stay " + i, x.image(i % 3, i), i % 3 == 1 ? i : 65520 - i);
+        }
         due("there is room again", x.exchange(1, 1, 2), 201);
+        due("it is kept", x.image(1, 1), 2);
+        due("others stay", x.image(0, 0), 65520);
+        due("others stay", x.image(2, 299), 65520 - 299);
     }
 
     // ---- promise 9
@@ -743,6 +800,25 @@ public final class TwinFinderPromises {
         familyRow("after a change", x, 3, 0, 1, 4, 5);
     }
 
+    private static void allPairs() {
+        TwinFinder x = new TwinFinder();
+        for (int d = 0; d < 48; d++) {
+            addText(x, "the same");
+        }
+        for (int sort = 0; sort < 2; sort++) {
+            due("48 of a kind", x.pairs(sort), 1128);
+            due("first of the last", x.pair(sort, 1127, 0), 46);
+            due("second of the last", x.pair(sort, 1127, 1), 47);
+            due("47 with the first", x.pair(sort, 46, 1), 47);
+            due("then the second", x.pair(sort, 47, 0), 1);
+            due("behind", x.pair(sort, 1128, 0), NONE);
+        }
+        due("one family", x.pairs(2), 1);
+        due("one family", x.pairs(3), 1);
+        due("of 48", documentOf(x, 47, 2), 48);
+        due("with 47 twins", documentOf(x, 47, 3), 47);
+    }
+
     private static void pairRow(String name, TwinFinder x, int sort, int... want) {
         for (int i = 0; i < want.length; i++) {
             due(name + " " + i, x.pair(sort, i / 2, i % 2), want[i]);
@@ -790,8 +866,12 @@ public final class TwinFinderPromises {
         x.bands(1, 1);
         x.remove(6);
         ranks("candidates or not", x, 0, 5, 2, 7, 4, 1, 3, 8);
+        addText(x, "p");
+        addText(x, "pq");
+        addText(x, "p");
+        ranks("1 / 1 before 1 / 2", x, 9, 11, 10, 0, 1, 2, 3, 4, 5, 7, 8);
         due("not there", nearestOf(x, 6, 0), THROWS);
-        due("not there, none such", nearestOf(x, 9, -1), THROWS);
+        due("not there, none such", nearestOf(x, 12, -1), THROWS);
         due("below 0", nearestOf(x, -1, 0), THROWS);
         due("far off", nearestOf(x, 0, Integer.MIN_VALUE), NONE);
         due("far off", nearestOf(x, 0, Integer.MAX_VALUE), NONE);
