@@ -2,17 +2,16 @@ import java.util.ArrayList;
 import java.util.HashMap;
 import java.util.List;
 import java.util.Map;
-import java.util.NoSuchElementException;
 import java.util.Random;
 import java.util.TreeMap;
 import java.util.TreeSet;
 
 /** Mixed runs of calls, each answered by the class and by a slow model that follows the document's words. */
 public final class TwinFinderModel {
-    private static final int CALLS = 512;
+    private static final int CALLS = Finder.CALLS;
     private static final int RUNS_A_KIND = 30;
-    private static final long ILLEGAL = -1001;
-    private static final long NO_SUCH = -1002;
+    private static final long ILLEGAL = Finder.ILLEGAL;
+    private static final long NO_SUCH = Finder.NO_SUCH;
     private static int wrong = 0;
     private static long calls = 0;
 
@@ -355,7 +354,8 @@ public final class TwinFinderModel {
         private final int kind;
         private final long seed;
         private final Random dice;
-        private final TwinFinder x = new TwinFinder();
+        // The last step of a run may go a few calls too far; their answers are not compared.
+        private final Finder x = Finder.beyondThePromisedCalls();
         private final Model m = new Model();
         private final List<String> texts = new ArrayList<>();
         private int made = 0;
@@ -504,13 +504,7 @@ public final class TwinFinderModel {
         }
 
         private void mode(int sort, int k) {
-            long got;
-            try {
-                got = x.mode(sort, k);
-            } catch (IllegalArgumentException e) {
-                got = ILLEGAL;
-            }
-            due("mode " + sort + " " + k, got, m.mode(sort, k));
+            due("mode " + sort + " " + k, x.mode(sort, k), m.mode(sort, k));
         }
 
         private void end(int n) {
@@ -522,53 +516,23 @@ public final class TwinFinderModel {
         }
 
         private void document(int d, int what) {
-            long got;
-            try {
-                got = x.document(d, what);
-            } catch (NoSuchElementException e) {
-                got = NO_SUCH;
-            }
-            due("document " + d + " " + what, got, m.document(d, what));
+            due("document " + d + " " + what, x.document(d, what), m.document(d, what));
         }
 
         private void shingle(int d, int i) {
-            long got;
-            try {
-                got = x.shingle(d, i);
-            } catch (NoSuchElementException e) {
-                got = NO_SUCH;
-            }
-            due("shingle " + d + " " + i, got, m.shingle(d, i));
+            due("shingle " + d + " " + i, x.shingle(d, i), m.shingle(d, i));
         }
 
         private void signature(int d, int j) {
-            long got;
-            try {
-                got = x.signature(d, j);
-            } catch (NoSuchElementException e) {
-                got = NO_SUCH;
-            }
-            due("signature " + d + " " + j, got, m.signature(d, j));
+            due("signature " + d + " " + j, x.signature(d, j), m.signature(d, j));
         }
 
         private void both(int d, int e, int what) {
-            long got;
-            try {
-                got = x.both(d, e, what);
-            } catch (NoSuchElementException f) {
-                got = NO_SUCH;
-            }
-            due("both " + d + " " + e + " " + what, got, m.both(d, e, what));
+            due("both " + d + " " + e + " " + what, x.both(d, e, what), m.both(d, e, what));
         }
 
         private void nearest(int d, int i) {
-            long got;
-            try {
-                got = x.nearest(d, i);
-            } catch (NoSuchElementException e) {
-                got = NO_SUCH;
-            }
-            due("nearest " + d + " " + i, got, m.nearest(d, i));
+            due("nearest " + d + " " + i, x.nearest(d, i), m.nearest(d, i));
         }
 
         /** Mostly from 0 up to below the bound; at times an edge, or far off. */
