@@ -342,7 +342,8 @@ public final class TextPromises {
 
     @Says("none stays at the beginning and at the end")
     private static void promise4_noBlankAtTheEdges() {
-        String[] texts = {" a", "a ", " a ", "...a", "a...", "..a..", "\0".repeat(799) + "a", "a" + "\u00ff".repeat(799)};
+        String[] texts = {" a", "a ", " a ", "...a", "a...", "..a..",
+            "\0".repeat(799) + "a", "a" + "\u00ff".repeat(799)};
         for (String text : texts) {
             Finder x = Finder.of(0, 1);
             x.type(text);
@@ -532,7 +533,8 @@ public final class TextPromises {
         due("its shingles", x.shingles(9), Texts.numbers(5651, 5663));
         due("a text without shingles", x.addText("abc"), 10);
         due("an empty one", x.add(), 11);
-        due("one new one behind old ones", x.addText(last.substring(100, 120) + (last.charAt(120) == 'a' ? 'b' : 'a')), NONE);
+        char another = last.charAt(120) == 'a' ? 'b' : 'a';
+        due("one new one behind old ones", x.addText(last.substring(100, 120) + another), NONE);
     }
 
     /** 49840 bytes of shingles, nine words of three letters each: one of 160 bytes may come. */

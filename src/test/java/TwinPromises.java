@@ -209,7 +209,7 @@ public final class TwinPromises {
         due("796 of 797 is above 9987 / 10000", x.both(0, 2, 4), 1);
     }
 
-    @Says("They are TWINS, if they are CANDIDATES, and COMMON / ALL is at least p / q (0 / 1: all CANDIDATES, no others)")
+    @Says("They are TWINS, if they are CANDIDATES, and COMMON / ALL is at least p / q (0: all CANDIDATES, no others)")
     private static void promise11_zeroAndOne() {
         Finder x = Finder.ofSigns("abcdefgh", "a", "bcdefgh", "hgfedcba", "", "");
         x.threshold(0, 1);

@@ -20,7 +20,7 @@ final class Finder {
         this.mostCalls = mostCalls;
     }
 
-    /** What such an object answers behind its 512th call is free by the document; the class keeps its rules there too. */
+    /** Its answers behind the 512th call are free by the document; the class keeps its rules there too. */
     static Finder beyondThePromisedCalls() {
         return new Finder(Integer.MAX_VALUE);
     }

@@ -7,7 +7,7 @@ import java.util.function.Consumer;
 import java.util.regex.Matcher;
 import java.util.regex.Pattern;
 
-/** Runs the tests of a class, each a method named promiseN_.. for one sentence of the document, and holds their checks. */
+/** Runs the tests of a class, each a method promiseN_.. for one sentence of the document, and holds their checks. */
 final class Sentences {
     private static final Pattern NAME = Pattern.compile("promise(\\d+)_\\w+");
     private static final List<String> faults = new ArrayList<>();
