@@ -850,6 +850,24 @@ public final class TextPromises {
         due("the last", x.spelled(3), "e");
     }
 
+    @Says("all DOCUMENTS go (as many may come again, each with its own SHINGLES)")
+    private static void promise6_asManyMayComeAgain() {
+        Finder x = Finder.of(1, 1);
+        for (int d = 0; d < 48; d++) {
+            x.add();
+        }
+        due("48 went", x.mode(1, 1), 48);
+        for (int d = 0; d < 48; d++) {
+            due("add " + d, x.addText(Texts.words(10 * d, 11)), d);
+        }
+        due("full", x.add(), NONE);
+        for (int d = 0; d < 48; d++) {
+            due(d + " with itself", x.both(d, d, 0), 11);
+            due(d + " with the first", x.both(d, 0, 0), d == 0 ? 11 : d == 1 ? 1 : 0);
+            due(d + " with the last", x.both(47, d, 0), d == 47 ? 11 : d == 46 ? 1 : 0);
+        }
+    }
+
     @Says("numbers begin anew (so 6000 and 50000 bytes may come)")
     private static void promise6_shinglesHaveRoomAnew() {
         Texts unlike = Texts.unlikeIn(8);

@@ -640,6 +640,14 @@ public final class TwinPromises {
         due("101/201, 102/203, then 100/200 and 101/202 by their numbers", x.ranks(0), "3 1 2 4");
     }
 
+    @Says("by COMMON / ALL, the greatest first, then by their numbers (of one SHINGLE)")
+    private static void promise19_ofOneShingle() {
+        Finder x = Finder.ofSigns("p", "pq", "p", "", "q", "p", "qp");
+        due("1/1, 1/1, 1/2, 1/2, 0/1, 0/2", x.ranks(0), "2 5 1 6 3 4");
+        due("turned", x.ranks(5), "0 2 1 6 3 4");
+        due("of the other", x.ranks(4), "1 6 0 2 3 5");
+    }
+
     @Says("of all others (CANDIDATES or not)")
     private static void promise19_candidatesOrNot() {
         Finder x = Finder.ofSigns("abcdef", "bcdef", "a");
