@@ -6,7 +6,7 @@ import java.util.Set;
 
 /** Any arguments in any state, also behind the 512th call: a call throws what the face names, or nothing. */
 public final class TwinFinderWild {
-    private static final int OBJECTS = 40;
+    private static final int OBJECTS = 100;
     private static final int CALLS_OF_ONE = 3000;
     // The limits of the document and the edges of an int, with what lies beside them.
     private static final int[] EDGES = {0, 1, 2, 9, 15, 47, 48, 63, 64, 300, 400, 800, 6000, 10000, 50000, 65520, 65521,
@@ -29,7 +29,7 @@ public final class TwinFinderWild {
         int feedsToAnAdd = 1 + random.nextInt(60);
         for (int i = 0; i < CALLS_OF_ONE; i++) {
             // The calls that fill what can be full come more often than the others, some of which empty it again.
-            Method method = random.nextInt(10) == 0 ? anyOf(Face.methods(), random)
+            Method method = random.nextInt(8) == 0 ? anyOf(Face.methods(), random)
                 : random.nextInt(2) == 0 ? Face.named("exchange")
                 : Face.named(random.nextInt(feedsToAnAdd) == 0 ? "add" : "feed");
             String answer = Face.answer(finder, method, argumentsOf(method, random));
@@ -61,10 +61,11 @@ public final class TwinFinderWild {
     }
 
     private static int wildNumber(Random random) {
-        return switch (random.nextInt(4)) {
+        return switch (random.nextInt(5)) {
             case 0 -> EDGES[random.nextInt(EDGES.length)] + random.nextInt(3) - 1;
             case 1 -> random.nextInt();
-            case 2 -> random.nextInt(10);
+            case 2 -> random.nextInt(2);
+            case 3 -> random.nextInt(10);
             default -> random.nextInt(64);
         };
     }
